@@ -513,7 +513,6 @@ public final class LruKPageCache {
         private void vacate(int page) {
             resident[page] = false;
             changed[page] = false;
-            values[page] = 0;
             pins[page] = 0;
         }
     }

@@ -60,6 +60,11 @@ public final class PromisesTest {
             "referenceTime(1, 1) -> -9, referenceTime(2, 1) -> -9, referenceTime(3, 1) -> -9,",
             "backwardKDistance(3) -> -9, flush(3) -> 0, flush(2) -> 0, discard(2) -> 0,",
             "read(3) -> 0, isDirty(3) -> 0, pinCount(3) -> 0, read(2) -> 0, read(1) -> 0, queueSize() -> 0");
+        runs.run("2: clears the first and the last page", "write(0, 5) -> 0, pin(0) -> 1, write(63, 6) -> 0, pin(63) -> 1,",
+            "flushAll() -> 2, write(0, 7) -> 5, reset(4, 2, 3, 100) -> 0, isResident(0) -> 0, isResident(63) -> 0,",
+            "diskValue(0) -> 0, diskValue(63) -> 0, flushAll() -> 0, discard(0) -> 0, discard(63) -> 0,",
+            "read(0) -> 0, isDirty(0) -> 0, pinCount(0) -> 0, referenceTime(0, 2) -> -9, read(63) -> 0,",
+            "pinCount(63) -> 0, referenceTime(63, 2) -> -9");
     }
 
     private static void resetRefuses(Runs runs) {
