@@ -4,7 +4,7 @@ import java.nio.file.Path;
 import java.util.regex.Matcher;
 import java.util.regex.Pattern;
 
-/** Those rules of LANGUAGE.md that show in the words of the source. Its path is the argument. */
+/** Those rules of LANGUAGE.md that show in the words of the source. Its path is the first argument. */
 public final class SourceTest {
     private static final String[] FORBIDDEN = {
         "\\b(throw|throws|try|catch|finally|synchronized|assert|package|native|volatile|transient)\\b",
@@ -13,8 +13,8 @@ public final class SourceTest {
         "import\\s+(?!java\\.util\\.(Arrays|ArrayList|List|Iterator);)", "\\bMath\\.(?!min\\b|max\\b|abs\\b)"};
 
     public static void main(String[] args) throws IOException {
-        if (args.length != 1) {
-            System.out.println("the argument is the path of the source");
+        if (args.length < 1) {
+            System.out.println("the first argument is the path of the source");
             System.exit(1);
         }
         String code = withoutComments(Files.readString(Path.of(args[0])));
