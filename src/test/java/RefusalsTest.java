@@ -2,7 +2,7 @@ import java.util.ArrayList;
 import java.util.List;
 
 /**
- * "A call that returns an error code leaves the state unchanged": every refusal of every method, in several states.
+ * "A call that returns an error code leaves the state unchanged": every kind of refusal of every method.
  * Two objects come to the same state, one of them is then asked for what it refuses, and all that can be seen of
  * the two must be the same, now and while both go on.
  */
