@@ -3,7 +3,8 @@ import java.io.IOException;
 /** The section "Description", sentence by sentence. The path of the document is the second argument. */
 public final class DescriptionSentencesTest {
     public static void main(String[] args) throws IOException {
-        Sentences doc = new Sentences(args[1], "Description");
+        Runs runs = new Runs();
+        Sentences doc = new Sentences(runs, args[1], "Description");
         doc.section("Description");
         disk(doc);
         frames(doc);
@@ -24,7 +25,8 @@ public final class DescriptionSentencesTest {
         queries(doc);
         newCache(doc);
         constants(doc);
-        doc.end();
+        doc.allQuoted();
+        runs.end();
     }
 
     private static void disk(Sentences doc) {

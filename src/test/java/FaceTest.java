@@ -1,54 +1,41 @@
+import java.io.IOException;
 import java.lang.reflect.Constructor;
+import java.lang.reflect.Executable;
 import java.lang.reflect.Field;
 import java.lang.reflect.Method;
 import java.lang.reflect.Modifier;
+import java.lang.reflect.Parameter;
 import java.util.Set;
+import java.util.StringJoiner;
 import java.util.TreeSet;
+import java.util.regex.Matcher;
+import java.util.regex.Pattern;
 
-/** The class has the document's public face, and beside it nothing that is not private. */
+/**
+ * The class has the public face that the document writes out, line for line, and beside it nothing that is not
+ * private. The path of the document is the second argument; the names of parameters are known by javac -parameters.
+ */
 public final class FaceTest {
-    private static final String[] FACE = {
-        "NO_SUCH_PAGE = -1", "BAD_VALUE = -2", "ALL_PINNED = -3", "NOT_RESIDENT = -4", "NOT_PINNED = -5",
-        "PIN_LIMIT = -6", "PAGE_PINNED = -7", "BAD_ARGUMENT = -8", "NONE = -9", "new 0",
-        "reset 4", "read 1", "write 2", "pin 1", "unpin 1", "flush 1", "flushAll 0", "drain 1", "discard 1",
-        "isResident 1", "isDirty 1", "pinCount 1", "referenceTime 2", "backwardKDistance 1", "victim 0",
-        "diskValue 1", "residentCount 0", "residentPage 1", "queueSize 0", "queuedPage 1", "queuedValue 1",
-        "clock 0", "hits 0", "misses 0", "evictions 0", "diskReads 0", "diskWrites 0", "stalls 0"};
+    private static final Pattern BLOCK = Pattern.compile("```java\\n(.*?)\\n}\\n```", Pattern.DOTALL);
+    private static final Pattern SIGNATURE = Pattern.compile("(?m)^`([^`]*)`$");
 
     private static int wrong;
 
-    public static void main(String[] args) throws IllegalAccessException {
+    public static void main(String[] args) throws IOException, IllegalAccessException {
+        Document document = new Document(args[1]);
         Class<?> type = LruKPageCache.class;
-        check(Modifier.isPublic(type.getModifiers()) && Modifier.isFinal(type.getModifiers()), "public and final");
-        Set<String> seen = new TreeSet<>();
-        Set<String> publicNames = new TreeSet<>();
-        for (Constructor<?> constructor : type.getDeclaredConstructors()) {
-            check(Modifier.isPublic(constructor.getModifiers()), "the constructor is public");
-            seen.add("new " + constructor.getParameterCount());
-        }
-        for (Field field : type.getDeclaredFields()) {
-            if (Modifier.isPrivate(field.getModifiers())) {
-                check(!Modifier.isStatic(field.getModifiers()) || Modifier.isFinal(field.getModifiers()),
-                    "a static field is final: " + field);
-            } else {
-                check(field.toString().startsWith("public static final int "), "a constant: " + field);
-                seen.add(field.getName() + " = " + field.getInt(null));
-            }
-        }
-        for (Method method : type.getDeclaredMethods()) {
-            if (!Modifier.isPrivate(method.getModifiers())) {
-                check(method.getModifiers() == Modifier.PUBLIC, "public and no more: " + method);
-                checkTypes(method);
-                publicNames.add(method.getName());
-                seen.add(method.getName() + " " + method.getParameterCount());
-            }
-        }
-        check(seen.equals(new TreeSet<>(Set.of(FACE))), "the document's members, not " + seen);
-        checkPrivateNames(type, publicNames);
+        Set<String> face = new TreeSet<>();
+        face.add(Modifier.toString(type.getModifiers()) + " class " + type.getName() + " {");
+        addConstants(type, face);
+        addConstructorsAndMethods(type, face);
+        same("the public face", linesOfTheFace(document), face);
+        face.removeIf(line -> !line.endsWith(");"));
+        same("a promise for each", signaturesOfThePromises(document), face);
+        checkOtherNames(type);
         for (Class<?> inside : type.getDeclaredClasses()) {
             check(Modifier.isStatic(inside.getModifiers()) && !Modifier.isPublic(inside.getModifiers())
                 && !Modifier.isProtected(inside.getModifiers()), "static and not public: " + inside);
-            checkPrivateNames(inside, publicNames);
+            checkOtherNames(inside);
         }
         System.out.println(wrong == 0 ? "the face is the document's" : wrong + " faults in the face");
         if (wrong != 0) {
@@ -56,17 +43,72 @@ public final class FaceTest {
         }
     }
 
-    private static void checkTypes(Method method) {
-        check(method.getReturnType() == int.class, "answers int: " + method);
-        for (Class<?> parameter : method.getParameterTypes()) {
-            check(parameter == int.class, "takes int: " + method);
+    private static void addConstants(Class<?> type, Set<String> face) throws IllegalAccessException {
+        for (Field field : type.getDeclaredFields()) {
+            boolean fixed = Modifier.isStatic(field.getModifiers()) && Modifier.isFinal(field.getModifiers());
+            if (!Modifier.isPrivate(field.getModifiers())) {
+                face.add(Modifier.toString(field.getModifiers()) + " " + field.getType() + " " + field.getName() + " = "
+                    + (fixed ? field.get(null) : "?") + ";");
+            } else {
+                check(fixed || !Modifier.isStatic(field.getModifiers()), "a static field is final: " + field);
+            }
         }
     }
 
-    private static void checkPrivateNames(Class<?> type, Set<String> publicNames) {
+    private static void addConstructorsAndMethods(Class<?> type, Set<String> face) {
+        for (Constructor<?> constructor : type.getDeclaredConstructors()) {
+            face.add(line(constructor, type.getName()));
+        }
         for (Method method : type.getDeclaredMethods()) {
-            check(Modifier.isPublic(method.getModifiers()) || !publicNames.contains(method.getName()),
-                "bears no public method's name: " + method);
+            if (!Modifier.isPrivate(method.getModifiers())) {
+                face.add(line(method, method.getReturnType() + " " + method.getName()));
+            }
+        }
+    }
+
+    private static String line(Executable member, String name) {
+        StringJoiner parameters = new StringJoiner(", ", "(", ");");
+        for (Parameter parameter : member.getParameters()) {
+            parameters.add(parameter.toString());
+        }
+        return Modifier.toString(member.getModifiers()) + " " + name + parameters;
+    }
+
+    private static Set<String> linesOfTheFace(Document document) {
+        Set<String> lines = new TreeSet<>();
+        Matcher block = BLOCK.matcher(document.section("The public face"));
+        check(block.find(), "the document writes out the face");
+        block.group(1).lines().map(String::trim).forEach(lines::add);
+        return lines;
+    }
+
+    private static Set<String> signaturesOfThePromises(Document document) {
+        Set<String> signatures = new TreeSet<>();
+        for (String heading : document.headings()) {
+            Matcher signature = SIGNATURE.matcher(document.section(heading));
+            if (heading.startsWith("Promise ") && signature.find()) {
+                signatures.add("public " + signature.group(1) + ";");
+            }
+        }
+        return signatures;
+    }
+
+    /** No method that is not public bears the name of a public one. */
+    private static void checkOtherNames(Class<?> type) {
+        for (Method method : type.getDeclaredMethods()) {
+            for (Method known : LruKPageCache.class.getDeclaredMethods()) {
+                check(Modifier.isPublic(method.getModifiers()) || !Modifier.isPublic(known.getModifiers())
+                    || !known.getName().equals(method.getName()), "bears no public method's name: " + method);
+            }
+        }
+    }
+
+    private static void same(String what, Set<String> due, Set<String> got) {
+        for (String line : due) {
+            check(got.contains(line), what + ": the class has " + line);
+        }
+        for (String line : got) {
+            check(due.contains(line), what + ": the document has " + line);
         }
     }
 

@@ -1,12 +1,12 @@
 import java.util.Random;
 
 /**
- * Long runs of calls, drawn from fixed seeds, against PlainModel. After every call the whole visible state is
- * compared, so a wrong change shows at the call that made it; a call that throws is a wrong answer too.
+ * Runs of calls, drawn from fixed seeds, against PlainModel. A run changes the state for some of the calls that the
+ * document allows on one object, looking at it now and then, and spends what is left on looking at all of it.
+ * A call that throws is a wrong answer too.
  */
 public final class ModelTest {
-    private static final int RUNS = 1500;
-    private static final int CALLS = 512;
+    private static final int RUNS = 20000;
     private static final int MOST_TOLD = 10;
     private static final int[] ODD_NUMBERS = {-1, 64, 65, 10000, -2, Integer.MIN_VALUE, Integer.MAX_VALUE, -9, 127, 9999};
     private static final String[] STATE = {"clock", "hits", "misses", "evictions", "diskReads", "diskWrites", "stalls",
@@ -18,7 +18,8 @@ public final class ModelTest {
     private final PlainModel model = new PlainModel();
     private final int lowestPage;
     private final int pages;
-    private final StringBuilder told = new StringBuilder();
+    private String told;
+    private int calls;
     private boolean wrong;
 
     private ModelTest(long seed) {
@@ -47,16 +48,20 @@ public final class ModelTest {
             both("reset", 1 + random.nextInt(random.nextBoolean() ? 3 : 16), 1 + random.nextInt(3),
                 1 + random.nextInt(random.nextBoolean() ? 2 : 8), retention());
         }
+        int changing = random.nextInt(Runs.MOST_CALLS);
         int resets = 0;
-        for (int i = 1; i < CALLS && !wrong; i++) {
+        while (calls < changing && !wrong) {
             if (resets < 2 && random.nextInt(200) == 0) {
                 resets++;
                 both("reset", random.nextInt(18), random.nextInt(5), random.nextInt(10), retention());
             } else {
                 change();
             }
-            compareState();
+            if (random.nextInt(3) == 0) {
+                look();
+            }
         }
+        lookAtAll();
     }
 
     private int retention() {
@@ -84,25 +89,25 @@ public final class ModelTest {
             both("flushAll", 0, 0, 0, 0);
         } else if (dice < 93) {
             both("drain", random.nextInt(4) == 0 ? odd() : random.nextInt(10), 0, 0, 0);
-        } else if (dice < 98) {
-            both("discard", page(), 0, 0, 0);
         } else {
-            oddQueries();
+            both("discard", page(), 0, 0, 0);
         }
     }
 
-    private void oddQueries() {
-        for (String name : PAGE_STATE) {
-            both(name, odd(), 0, 0, 0);
+    /** One look at any part of the state, with any argument. */
+    private void look() {
+        switch (random.nextInt(6)) {
+            case 0: both(STATE[random.nextInt(STATE.length)], 0, 0, 0, 0); break;
+            case 1: both("residentPage", position(), 0, 0, 0); break;
+            case 2: both("queuedPage", position(), 0, 0, 0); break;
+            case 3: both("queuedValue", position(), 0, 0, 0); break;
+            case 4: both("referenceTime", page(), random.nextInt(8) == 0 ? odd() : random.nextInt(5), 0, 0); break;
+            default: both(PAGE_STATE[random.nextInt(PAGE_STATE.length)], page(), 0, 0, 0);
         }
-        both("referenceTime", page(), odd(), 0, 0);
-        both("referenceTime", odd(), random.nextInt(5), 0, 0);
-        both("residentPage", odd(), 0, 0, 0);
-        both("queuedPage", odd(), 0, 0, 0);
-        both("queuedValue", odd(), 0, 0, 0);
     }
 
-    private void compareState() {
+    /** As much of the state as the calls that are left can show. */
+    private void lookAtAll() {
         for (String name : STATE) {
             both(name, 0, 0, 0, 0);
         }
@@ -113,14 +118,23 @@ public final class ModelTest {
             both("queuedPage", position, 0, 0, 0);
             both("queuedValue", position, 0, 0, 0);
         }
-        for (int page = lowestPage; page < lowestPage + pages; page++) {
-            for (String name : PAGE_STATE) {
-                both(name, page, 0, 0, 0);
-            }
-            for (int i = 0; i <= 4; i++) {
-                both("referenceTime", page, i, 0, 0);
-            }
+        int first = random.nextInt(pages);
+        for (int i = 0; i < pages; i++) {
+            lookAtPage(lowestPage + (first + i) % pages);
         }
+    }
+
+    private void lookAtPage(int page) {
+        for (String name : PAGE_STATE) {
+            both(name, page, 0, 0, 0);
+        }
+        for (int i = 0; i <= 4; i++) {
+            both("referenceTime", page, i, 0, 0);
+        }
+    }
+
+    private int position() {
+        return random.nextInt(10) == 0 ? odd() : random.nextInt(18) - 1;
     }
 
     private int page() {
@@ -132,9 +146,10 @@ public final class ModelTest {
     }
 
     private void both(String name, int a, int b, int c, int d) {
-        if (wrong) {
+        if (wrong || calls == Runs.MOST_CALLS) {
             return;
         }
+        calls++;
         int due = model.call(name, a, b, c, d);
         String got;
         try {
@@ -144,8 +159,8 @@ public final class ModelTest {
         }
         if (!got.equals(Integer.toString(due))) {
             wrong = true;
-            told.append(name).append(" of ").append(a).append(", ").append(b).append(", ").append(c).append(", ")
-                .append(d).append(" answered ").append(got).append(", due is ").append(due);
+            told = "call " + calls + ", " + name + " of " + a + ", " + b + ", " + c + ", " + d + " answered " + got
+                + ", due is " + due;
         }
     }
 

@@ -14,7 +14,8 @@ public final class PromiseSentencesTest {
     private static final String ONE_QUEUED = "reset(1, 2, 1, 9) -> 0, write(1, 11) -> 0, read(2) -> 0,";
 
     public static void main(String[] args) throws IOException {
-        Sentences doc = new Sentences(args[1], "Promise");
+        Runs runs = new Runs();
+        Sentences doc = new Sentences(runs, args[1], "Promise");
         newObject(doc);
         reset(doc);
         resetParameters(doc);
@@ -47,7 +48,8 @@ public final class PromiseSentencesTest {
         evictions(doc);
         diskReadsAndWrites(doc);
         stalls(doc);
-        doc.end();
+        doc.allQuoted();
+        runs.end();
     }
 
     /** Calls of a method with each page, position or index out of range, all with one answer. */

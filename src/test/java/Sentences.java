@@ -1,6 +1,4 @@
 import java.io.IOException;
-import java.nio.file.Files;
-import java.nio.file.Path;
 import java.util.ArrayList;
 import java.util.LinkedHashMap;
 import java.util.List;
@@ -11,20 +9,21 @@ import java.util.Map;
  * at the end every sentence of the sections must have been quoted: a sentence without a test is a fault.
  */
 final class Sentences {
-    private final Runs runs = new Runs();
+    private final Runs runs;
     /** By the section's heading: its sentences that no run has quoted yet. */
     private final Map<String, List<String>> unquoted = new LinkedHashMap<>();
     private final Map<String, String> texts = new LinkedHashMap<>();
     private String current;
 
     /** Takes the sections whose headings begin with the given words. */
-    Sentences(String path, String headings) throws IOException {
-        for (String part : Files.readString(Path.of(path)).split("(?m)^## ")) {
-            if (part.startsWith(headings)) {
-                int end = part.indexOf('\n');
-                List<String> sentences = sentencesOf(part.substring(end + 1));
-                texts.put(part.substring(0, end), String.join(" ", sentences));
-                unquoted.put(part.substring(0, end), sentences);
+    Sentences(Runs runs, String path, String headings) throws IOException {
+        this.runs = runs;
+        Document document = new Document(path);
+        for (String heading : document.headings()) {
+            if (heading.startsWith(headings)) {
+                List<String> sentences = sentencesOf(document.section(heading));
+                texts.put(heading, String.join(" ", sentences));
+                unquoted.put(heading, sentences);
             }
         }
     }
@@ -46,13 +45,13 @@ final class Sentences {
         quote(sentence);
     }
 
-    void end() {
+    /** Tells the sentences that no run has quoted. */
+    void allQuoted() {
         for (Map.Entry<String, List<String>> section : unquoted.entrySet()) {
             for (String sentence : section.getValue()) {
                 runs.fault(section.getKey() + ": no test for \"" + sentence + "\"");
             }
         }
-        runs.end();
     }
 
     private void quote(String sentence) {
